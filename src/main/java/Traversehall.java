@@ -642,7 +642,9 @@ public final class Traversehall {
         }
 
         int append() {
-            count++;
+            if (count < MAX_POINTS) {
+                count++;
+            }
             return count - 1;
         }
 
@@ -1194,7 +1196,9 @@ public final class Traversehall {
         }
 
         int append() {
-            count++;
+            if (count < MAX_DEEDS) {
+                count++;
+            }
             return count - 1;
         }
 

@@ -1,11 +1,28 @@
+import java.util.NoSuchElementException;
+
 /** Counts the calls whose answer is not the one that is due. */
 final class Checks {
+    static final Object INDEX = IndexOutOfBoundsException.class;
+    static final Object ARGUMENT = IllegalArgumentException.class;
+    static final Object STATE = IllegalStateException.class;
+    static final Object UNSUPPORTED = UnsupportedOperationException.class;
+    static final Object ARITHMETIC = ArithmeticException.class;
+    static final Object NONE = NoSuchElementException.class;
+
     interface Call {
         Object answer();
     }
 
     private int wrong = 0;
     private int looked = 0;
+
+    static Traversehall land(int points) {
+        Traversehall land = new Traversehall();
+        for (int point = 0; point < points; point++) {
+            land.addPoint();
+        }
+        return land;
+    }
 
     /** The answer due is a number, a truth value, or the class of the exception that is due. */
     void due(int promise, String what, Object want, Call call) {

@@ -1,6 +1,8 @@
+import java.lang.reflect.Array;
+import java.lang.reflect.Field;
+
 /** Promises 40 to 43: masked observations, the share in use, the mean told, and soundness. */
 public final class CountsTest {
-    private static final Object ARITHMETIC = ArithmeticException.class;
     private static final Checks CHECKS = new Checks();
 
     public static void main(String[] args) {
@@ -9,6 +11,7 @@ public final class CountsTest {
         meanTold();
         isSound();
         isSoundAfterAll();
+        isNotSound();
         CHECKS.end();
     }
 
@@ -16,16 +19,8 @@ public final class CountsTest {
         CHECKS.due(promise, what, want, call);
     }
 
-    private static Traversehall land(int points) {
-        Traversehall land = new Traversehall();
-        for (int point = 0; point < points; point++) {
-            land.addPoint();
-        }
-        return land;
-    }
-
     private static void masked() {
-        Traversehall land = land(2);
+        Traversehall land = Checks.land(2);
         due(40, "none told", 0, () -> land.masked());
         land.observe(0, 0, 0, 1, 1, 1);
         land.observe(4, 2, 0, 1, 1, 1);
@@ -41,9 +36,9 @@ public final class CountsTest {
     }
 
     private static void usedShare() {
-        Traversehall land = land(3);
+        Traversehall land = Checks.land(3);
         land.fix(0, 0, 0);
-        due(41, "none told", ARITHMETIC, () -> land.usedShare());
+        due(41, "none told", Checks.ARITHMETIC, () -> land.usedShare());
         land.observe(0, 0, 1, 2, 1, 1);
         due(41, "none in use", 0f, () -> land.usedShare());
         land.observe(4, 0, 0, 1, 1, 1);
@@ -60,8 +55,8 @@ public final class CountsTest {
     }
 
     private static void meanTold() {
-        Traversehall land = land(2);
-        due(42, "none told", ARITHMETIC, () -> land.meanTold());
+        Traversehall land = Checks.land(2);
+        due(42, "none told", Checks.ARITHMETIC, () -> land.meanTold());
         land.observe(0, 0, 0, 1, -999, 2);
         due(42, "an amount has no sign", 999.0, () -> land.meanTold());
         land.observe(1, 1, 0, 1, 0, 1);
@@ -99,7 +94,7 @@ public final class CountsTest {
 
     /** All 60 observations and all 12 versions, the fixed points others in each. */
     private static void isSoundAfterAll() {
-        Traversehall land = land(6);
+        Traversehall land = Checks.land(6);
         for (int count = 0; count < 60; count++) {
             int from = count % 6;
             int to = (from + 1 + count / 6 % 5) % 6;
@@ -115,5 +110,42 @@ public final class CountsTest {
             land.mask(version * 5, true);
             due(43, "version by version", true, () -> land.isSound());
         }
+    }
+
+    /** No run of calls makes a version unsound: the test reaches into the archive to see that it is looked at. */
+    private static void isNotSound() {
+        int[][] versionAxisPoint = {{0, 0, 1}, {1, 2, 1}, {2, 1, 0}, {2, 2, 2}};
+        for (int[] at : versionAxisPoint) {
+            int spot = (at[0] * 3 + at[1]) * 6 + at[2];
+            due(43, "another top kept", false, () -> isSoundWith("tops", spot, 12345L));
+            due(43, "another bottom kept", false, () -> isSoundWith("bottoms", spot, 7L));
+            due(43, "no coordinate kept", false, () -> isSoundWith("bottoms", spot, 0L));
+        }
+        due(43, "one more coordinate kept", false, () -> isSoundWith("bottoms", 3, 1L));
+        due(43, "nothing to rest on", false, () -> isSoundWith("restedOn", 1, 0L));
+        due(43, "what was kept", true, () -> isSoundWith("tops", 0, 5L));
+    }
+
+    private static boolean isSoundWith(String name, int index, long value) {
+        Traversehall land = Checks.land(4);
+        for (int version = 0; version < 3; version++) {
+            for (int axis = 0; axis < 3; axis++) {
+                land.fix(0, axis, 5);
+                land.observe(version, axis, 0, 1, 8, 1);
+                land.observe(version, axis, 1, 2, 8, 1);
+                land.observe(version, axis, 2, 0, 2, 2);
+            }
+            land.publish(version);
+        }
+        try {
+            Field archive = Traversehall.class.getDeclaredField("archive");
+            archive.setAccessible(true);
+            Field kept = archive.get(land).getClass().getDeclaredField(name);
+            kept.setAccessible(true);
+            Array.setLong(kept.get(archive.get(land)), index, value);
+        } catch (ReflectiveOperationException e) {
+            throw new IllegalStateException(e);
+        }
+        return land.isSound();
     }
 }

@@ -1,11 +1,5 @@
-import java.util.NoSuchElementException;
-
 /** Promises 35 to 39: deeds, corners, places, areas, and corners that yield. */
 public final class DeedsTest {
-    private static final Object INDEX = IndexOutOfBoundsException.class;
-    private static final Object ARGUMENT = IllegalArgumentException.class;
-    private static final Object STATE = IllegalStateException.class;
-    private static final Object NONE = NoSuchElementException.class;
     private static final Checks CHECKS = new Checks();
 
     public static void main(String[] args) {
@@ -42,7 +36,7 @@ public final class DeedsTest {
             int number = count;
             due(35, "a deed's number", number, () -> land.deed());
         }
-        due(35, "a ninth deed", STATE, () -> land.deed());
+        due(35, "a ninth deed", Checks.STATE, () -> land.deed());
         due(35, "the eighth has no corners", 1, () -> land.corner(7, -1, 0, 0));
     }
 
@@ -53,21 +47,21 @@ public final class DeedsTest {
         due(36, "the first corner", 1, () -> land.corner(0, 0, 999, -999));
         due(36, "the second corner", 2, () -> land.corner(0, -1, -999, 999));
         due(36, "another deed by itself", 1, () -> land.corner(1, 1, 0, 0));
-        due(36, "no such deed", INDEX, () -> land.corner(2, -1, 0, 0));
-        due(36, "a deed below 0", INDEX, () -> land.corner(-1, -1, 0, 0));
-        due(36, "no such point", INDEX, () -> land.corner(0, 2, 0, 0));
-        due(36, "a point below -1", INDEX, () -> land.corner(0, -2, 0, 0));
-        due(36, "a step too great", ARGUMENT, () -> land.corner(0, -1, 1000, 0));
-        due(36, "a step too small", ARGUMENT, () -> land.corner(0, -1, -1000, 0));
-        due(36, "the other step too great", ARGUMENT, () -> land.corner(0, -1, 0, 1000));
-        due(36, "the other step too small", ARGUMENT, () -> land.corner(0, -1, 0, -1000));
-        due(36, "the index first", INDEX, () -> land.corner(0, 2, 1000, 0));
+        due(36, "no such deed", Checks.INDEX, () -> land.corner(2, -1, 0, 0));
+        due(36, "a deed below 0", Checks.INDEX, () -> land.corner(-1, -1, 0, 0));
+        due(36, "no such point", Checks.INDEX, () -> land.corner(0, 2, 0, 0));
+        due(36, "a point below -1", Checks.INDEX, () -> land.corner(0, -2, 0, 0));
+        due(36, "a step too great", Checks.ARGUMENT, () -> land.corner(0, -1, 1000, 0));
+        due(36, "a step too small", Checks.ARGUMENT, () -> land.corner(0, -1, -1000, 0));
+        due(36, "the other step too great", Checks.ARGUMENT, () -> land.corner(0, -1, 0, 1000));
+        due(36, "the other step too small", Checks.ARGUMENT, () -> land.corner(0, -1, 0, -1000));
+        due(36, "the index first", Checks.INDEX, () -> land.corner(0, 2, 1000, 0));
         for (int count = 2; count < 10; count++) {
             int corners = count + 1;
             due(36, "up to 10", corners, () -> land.corner(0, -1, 1, 1));
         }
-        due(36, "an eleventh", STATE, () -> land.corner(0, -1, 0, 0));
-        due(36, "the argument first", ARGUMENT, () -> land.corner(0, -1, 0, 1000));
+        due(36, "an eleventh", Checks.STATE, () -> land.corner(0, -1, 0, 0));
+        due(36, "the argument first", Checks.ARGUMENT, () -> land.corner(0, -1, 0, 1000));
         due(36, "the other deed has room", 2, () -> land.corner(1, -1, 0, 0));
         due(37, "the tenth corner", -991, () -> land.placeOf(0, 0, 9, 0));
     }
@@ -75,7 +69,7 @@ public final class DeedsTest {
     private static void places() {
         Traversehall land = land(new int[][] {{10, 20}, {300, 400}});
         land.deed();
-        due(37, "no such corner", INDEX, () -> land.placeOf(0, 0, 0, 0));
+        due(37, "no such corner", Checks.INDEX, () -> land.placeOf(0, 0, 0, 0));
         land.corner(0, 0, 7, 7);
         land.corner(0, -1, 5, -6);
         land.corner(0, 1, 0, 0);
@@ -86,20 +80,20 @@ public final class DeedsTest {
             due(37, "along the axis 0", want[corner][0], () -> land.placeOf(0, 0, number, 0));
             due(37, "along the axis 1", want[corner][1], () -> land.placeOf(0, 0, number, 1));
         }
-        due(37, "the axis 2", INDEX, () -> land.placeOf(0, 0, 0, 2));
-        due(37, "an axis below 0", INDEX, () -> land.placeOf(0, 0, 0, -1));
-        due(37, "no such deed", INDEX, () -> land.placeOf(1, 0, 0, 0));
-        due(37, "no such version", INDEX, () -> land.placeOf(0, 1, 0, 0));
-        due(37, "a corner too many", INDEX, () -> land.placeOf(0, 0, 4, 0));
-        due(37, "a corner below 0", INDEX, () -> land.placeOf(0, 0, -1, 0));
+        due(37, "the axis 2", Checks.INDEX, () -> land.placeOf(0, 0, 0, 2));
+        due(37, "an axis below 0", Checks.INDEX, () -> land.placeOf(0, 0, 0, -1));
+        due(37, "no such deed", Checks.INDEX, () -> land.placeOf(1, 0, 0, 0));
+        due(37, "no such version", Checks.INDEX, () -> land.placeOf(0, 1, 0, 0));
+        due(37, "a corner too many", Checks.INDEX, () -> land.placeOf(0, 0, 4, 0));
+        due(37, "a corner below 0", Checks.INDEX, () -> land.placeOf(0, 0, -1, 0));
         land.deed();
         land.corner(1, -1, 0, 0);
         land.corner(1, 0, 0, 0);
-        due(37, "the first corner has no monument", NONE, () -> land.placeOf(1, 0, 1, 0));
-        due(37, "the index first", INDEX, () -> land.placeOf(1, 0, 2, 0));
+        due(37, "the first corner has no monument", Checks.NONE, () -> land.placeOf(1, 0, 1, 0));
+        due(37, "the index first", Checks.INDEX, () -> land.placeOf(1, 0, 2, 0));
         land.deed();
         land.corner(2, 2, 0, 0);
-        due(37, "the first monument does not hang", NONE, () -> land.placeOf(2, 0, 0, 0));
+        due(37, "the first monument does not hang", Checks.NONE, () -> land.placeOf(2, 0, 0, 0));
     }
 
     /** A monument counts in those versions alone that have both its coordinates. */
@@ -141,7 +135,7 @@ public final class DeedsTest {
     private static void area() {
         Traversehall land = land(new int[][] {{0, 0}, {100, 0}, {0, 100}, {-4999, 4999}});
         land.deed();
-        due(38, "no corners", NONE, () -> land.area(0, 0));
+        due(38, "no corners", Checks.NONE, () -> land.area(0, 0));
         land.corner(0, 0, 0, 0);
         due(38, "a single corner", 0, () -> land.area(0, 0));
         land.corner(0, 1, 0, 0);
@@ -162,11 +156,11 @@ public final class DeedsTest {
         due(38, "a rectangle of steps", 2L * 1998 * 1998, () -> land.area(2, 0));
         land.deed();
         land.corner(3, -1, 0, 0);
-        due(38, "no places", NONE, () -> land.area(3, 0));
-        due(38, "no such deed", INDEX, () -> land.area(4, 0));
-        due(38, "a deed below 0", INDEX, () -> land.area(-1, 0));
-        due(38, "no such version", INDEX, () -> land.area(0, 1));
-        due(38, "a version below 0", INDEX, () -> land.area(0, -1));
+        due(38, "no places", Checks.NONE, () -> land.area(3, 0));
+        due(38, "no such deed", Checks.INDEX, () -> land.area(4, 0));
+        due(38, "a deed below 0", Checks.INDEX, () -> land.area(-1, 0));
+        due(38, "no such version", Checks.INDEX, () -> land.area(0, 1));
+        due(38, "a version below 0", Checks.INDEX, () -> land.area(0, -1));
         due(38, "the greatest one", 2L * 9998 * 9998, () -> greatestArea());
     }
 
@@ -182,7 +176,7 @@ public final class DeedsTest {
     private static void yields() {
         Traversehall land = land(new int[][] {{0, 0}, {100, 200}});
         land.deed();
-        due(39, "no corners", NONE, () -> land.yields(0, 0));
+        due(39, "no corners", Checks.NONE, () -> land.yields(0, 0));
         land.corner(0, 1, 999, 999);
         due(39, "not the first one", 0, () -> land.yields(0, 0));
         int[][] steps = {{-100, -200}, {-105, -205}, {-95, -195}, {-106, -200}, {-94, -200}, {-100, -206},
@@ -203,10 +197,10 @@ public final class DeedsTest {
         due(39, "two of them", 2, () -> land.yields(0, 0));
         land.deed();
         land.corner(1, 2, 0, 0);
-        due(39, "no places", NONE, () -> land.yields(1, 0));
-        due(39, "no such deed", INDEX, () -> land.yields(2, 0));
-        due(39, "no such version", INDEX, () -> land.yields(0, 1));
-        due(39, "a version below 0", INDEX, () -> land.yields(0, -1));
+        due(39, "no places", Checks.NONE, () -> land.yields(1, 0));
+        due(39, "no such deed", Checks.INDEX, () -> land.yields(2, 0));
+        due(39, "no such version", Checks.INDEX, () -> land.yields(0, 1));
+        due(39, "a version below 0", Checks.INDEX, () -> land.yields(0, -1));
     }
 
     /** How many yield of two corners, the second at 0, 0, and told by a step from 100, 200. */

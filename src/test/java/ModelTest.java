@@ -8,8 +8,9 @@ public final class ModelTest {
     private static final int RUNS = 250;
     private static final int CALLS = 512;
 
-    // A letter for each argument: point, q: a point to be fixed, monument, axis, epoch, observation, version, deed, corner, truth value,
-    // x: a fixed coordinate, t: a value told, w: a weight, l: a limit, s: a step. Ahead: how often.
+    // A line is how often, which call, and a letter for each argument: p a point, q a point to be fixed, m a
+    // monument, a an axis, e an epoch, o an observation, v a version, d a deed, c a corner, b a truth value,
+    // x a fixed coordinate, t a value told, w a weight, l a limit, s a step.
     private static final String[] PLAN = {
         "6 addPoint", "9 fix qax", "3 release qa", "40 observe eapptw", "6 mask ob", "3 isInUse o", "3 hangs eap",
         "3 parts ea", "3 spare ea", "5 top eap", "5 bottom eap", "4 rounded eap", "4 doubtTop eap",

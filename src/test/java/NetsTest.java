@@ -1,11 +1,5 @@
-import java.util.NoSuchElementException;
-
 /** Promises 1 to 19: points, observations, nets, coordinates, doubts, residuals and sums. */
 public final class NetsTest {
-    private static final Object INDEX = IndexOutOfBoundsException.class;
-    private static final Object ARGUMENT = IllegalArgumentException.class;
-    private static final Object STATE = IllegalStateException.class;
-    private static final Object NONE = NoSuchElementException.class;
     private static final Checks CHECKS = new Checks();
 
     public static void main(String[] args) {
@@ -35,21 +29,13 @@ public final class NetsTest {
         CHECKS.due(promise, what, want, call);
     }
 
-    private static Traversehall land(int points) {
-        Traversehall land = new Traversehall();
-        for (int point = 0; point < points; point++) {
-            land.addPoint();
-        }
-        return land;
-    }
-
     private static void newObject() {
         Traversehall land = new Traversehall();
         due(1, "no parts", 0, () -> land.parts(0, 0));
-        due(1, "no points", INDEX, () -> land.hangs(0, 0, 0));
-        due(1, "no observations", INDEX, () -> land.isInUse(0));
-        due(1, "no versions", INDEX, () -> land.epochOf(0));
-        due(1, "no deeds", INDEX, () -> land.corner(0, -1, 0, 0));
+        due(1, "no points", Checks.INDEX, () -> land.hangs(0, 0, 0));
+        due(1, "no observations", Checks.INDEX, () -> land.isInUse(0));
+        due(1, "no versions", Checks.INDEX, () -> land.epochOf(0));
+        due(1, "no deeds", Checks.INDEX, () -> land.corner(0, -1, 0, 0));
         due(1, "none masked", 0, () -> land.masked());
     }
 
@@ -59,12 +45,12 @@ public final class NetsTest {
             int number = point;
             due(2, "a point's number", number, () -> land.addPoint());
         }
-        due(2, "a seventh point", STATE, () -> land.addPoint());
+        due(2, "a seventh point", Checks.STATE, () -> land.addPoint());
         due(2, "six points are there", 6, () -> land.parts(4, 2));
     }
 
     private static void fix() {
-        Traversehall land = land(2);
+        Traversehall land = Checks.land(2);
         due(3, "not fixed before", false, () -> land.fix(0, 0, 4999));
         due(3, "fixed before", true, () -> land.fix(0, 0, -4999));
         due(3, "the new coordinate", -4999, () -> land.top(0, 0, 0));
@@ -72,74 +58,74 @@ public final class NetsTest {
         due(3, "another point by itself", false, () -> land.fix(1, 0, 8));
         due(3, "the axis 2", false, () -> land.fix(1, 2, 0));
         due(3, "in every epoch", 8, () -> land.top(4, 0, 1));
-        due(3, "no such point", INDEX, () -> land.fix(2, 0, 0));
-        due(3, "a point below 0", INDEX, () -> land.fix(-1, 0, 0));
-        due(3, "no such axis", INDEX, () -> land.fix(0, 3, 0));
-        due(3, "an axis below 0", INDEX, () -> land.fix(0, -1, 0));
-        due(3, "the index first", INDEX, () -> land.fix(0, 3, 5000));
-        due(3, "too great", ARGUMENT, () -> land.fix(0, 0, 5000));
-        due(3, "too small", ARGUMENT, () -> land.fix(0, 0, -5000));
-        due(3, "the least int", ARGUMENT, () -> land.fix(0, 0, Integer.MIN_VALUE));
+        due(3, "no such point", Checks.INDEX, () -> land.fix(2, 0, 0));
+        due(3, "a point below 0", Checks.INDEX, () -> land.fix(-1, 0, 0));
+        due(3, "no such axis", Checks.INDEX, () -> land.fix(0, 3, 0));
+        due(3, "an axis below 0", Checks.INDEX, () -> land.fix(0, -1, 0));
+        due(3, "the index first", Checks.INDEX, () -> land.fix(0, 3, 5000));
+        due(3, "too great", Checks.ARGUMENT, () -> land.fix(0, 0, 5000));
+        due(3, "too small", Checks.ARGUMENT, () -> land.fix(0, 0, -5000));
+        due(3, "the least int", Checks.ARGUMENT, () -> land.fix(0, 0, Integer.MIN_VALUE));
         due(3, "nothing changed", -4999, () -> land.top(0, 0, 0));
-        due(3, "not fixed by a throw", NONE, () -> land.release(0, 2));
+        due(3, "not fixed by a throw", Checks.NONE, () -> land.release(0, 2));
     }
 
     private static void release() {
-        Traversehall land = land(2);
+        Traversehall land = Checks.land(2);
         land.fix(0, 0, 12);
         land.fix(0, 1, 13);
         due(4, "the coordinate", 12, () -> land.release(0, 0));
-        due(4, "no longer fixed", NONE, () -> land.release(0, 0));
+        due(4, "no longer fixed", Checks.NONE, () -> land.release(0, 0));
         due(4, "hangs no longer", false, () -> land.hangs(0, 0, 0));
         due(4, "the other axis stays", 13, () -> land.release(0, 1));
-        due(4, "never fixed", NONE, () -> land.release(1, 0));
-        due(4, "no such point", INDEX, () -> land.release(2, 0));
-        due(4, "no such axis", INDEX, () -> land.release(0, 3));
-        due(4, "an axis below 0", INDEX, () -> land.release(0, -1));
+        due(4, "never fixed", Checks.NONE, () -> land.release(1, 0));
+        due(4, "no such point", Checks.INDEX, () -> land.release(2, 0));
+        due(4, "no such axis", Checks.INDEX, () -> land.release(0, 3));
+        due(4, "an axis below 0", Checks.INDEX, () -> land.release(0, -1));
         due(4, "fixed anew", false, () -> land.fix(0, 0, 1));
     }
 
     private static void observe() {
-        Traversehall land = land(3);
+        Traversehall land = Checks.land(3);
         due(5, "the first one", 0, () -> land.observe(0, 0, 0, 1, -999, 1));
         due(5, "the second one", 1, () -> land.observe(4, 2, 2, 0, 999, 2));
         land.fix(0, 0, 1000);
         due(5, "to less from", 1, () -> land.top(0, 0, 1));
-        due(5, "no such epoch", INDEX, () -> land.observe(5, 0, 0, 1, 0, 1));
-        due(5, "an epoch below 0", INDEX, () -> land.observe(-1, 0, 0, 1, 0, 1));
-        due(5, "no such axis", INDEX, () -> land.observe(0, 3, 0, 1, 0, 1));
-        due(5, "no such point from", INDEX, () -> land.observe(0, 0, 3, 1, 0, 1));
-        due(5, "no such point to", INDEX, () -> land.observe(0, 0, 1, 3, 0, 1));
-        due(5, "a point below 0", INDEX, () -> land.observe(0, 0, 1, -1, 0, 1));
-        due(5, "both the same, none there", INDEX, () -> land.observe(0, 0, 3, 3, 0, 1));
-        due(5, "both the same", ARGUMENT, () -> land.observe(0, 0, 1, 1, 0, 1));
-        due(5, "a value too great", ARGUMENT, () -> land.observe(0, 0, 0, 1, 1000, 1));
-        due(5, "a value too small", ARGUMENT, () -> land.observe(0, 0, 0, 1, -1000, 1));
-        due(5, "the weight 0", ARGUMENT, () -> land.observe(0, 0, 0, 1, 0, 0));
-        due(5, "the weight 3", ARGUMENT, () -> land.observe(0, 0, 0, 1, 0, 3));
-        due(5, "the index first", INDEX, () -> land.observe(0, 0, 0, 3, 1000, 3));
+        due(5, "no such epoch", Checks.INDEX, () -> land.observe(5, 0, 0, 1, 0, 1));
+        due(5, "an epoch below 0", Checks.INDEX, () -> land.observe(-1, 0, 0, 1, 0, 1));
+        due(5, "no such axis", Checks.INDEX, () -> land.observe(0, 3, 0, 1, 0, 1));
+        due(5, "no such point from", Checks.INDEX, () -> land.observe(0, 0, 3, 1, 0, 1));
+        due(5, "no such point to", Checks.INDEX, () -> land.observe(0, 0, 1, 3, 0, 1));
+        due(5, "a point below 0", Checks.INDEX, () -> land.observe(0, 0, 1, -1, 0, 1));
+        due(5, "both the same, none there", Checks.INDEX, () -> land.observe(0, 0, 3, 3, 0, 1));
+        due(5, "both the same", Checks.ARGUMENT, () -> land.observe(0, 0, 1, 1, 0, 1));
+        due(5, "a value too great", Checks.ARGUMENT, () -> land.observe(0, 0, 0, 1, 1000, 1));
+        due(5, "a value too small", Checks.ARGUMENT, () -> land.observe(0, 0, 0, 1, -1000, 1));
+        due(5, "the weight 0", Checks.ARGUMENT, () -> land.observe(0, 0, 0, 1, 0, 0));
+        due(5, "the weight 3", Checks.ARGUMENT, () -> land.observe(0, 0, 0, 1, 0, 3));
+        due(5, "the index first", Checks.INDEX, () -> land.observe(0, 0, 0, 3, 1000, 3));
         due(5, "nothing told by a throw", 2, () -> land.observe(0, 0, 0, 1, 0, 1));
     }
 
     private static void observeLimits() {
-        Traversehall land = land(2);
+        Traversehall land = Checks.land(2);
         for (int count = 0; count < 10; count++) {
             land.observe(0, 0, 0, 1, count, 1);
         }
-        due(5, "an eleventh of the net", STATE, () -> land.observe(0, 0, 0, 1, 0, 1));
-        due(5, "the argument first", ARGUMENT, () -> land.observe(0, 0, 0, 1, 0, 3));
+        due(5, "an eleventh of the net", Checks.STATE, () -> land.observe(0, 0, 0, 1, 0, 1));
+        due(5, "the argument first", Checks.ARGUMENT, () -> land.observe(0, 0, 0, 1, 0, 3));
         land.mask(3, true);
-        due(5, "masked ones are there, too", STATE, () -> land.observe(0, 0, 0, 1, 0, 1));
+        due(5, "masked ones are there, too", Checks.STATE, () -> land.observe(0, 0, 0, 1, 0, 1));
         for (int count = 10; count < 60; count++) {
             int number = count;
             due(5, "up to 60", number, () -> land.observe(number / 10 % 5, number / 50, 1, 0, 0, 2));
         }
-        due(5, "the 61st", STATE, () -> land.observe(4, 2, 0, 1, 0, 1));
+        due(5, "the 61st", Checks.STATE, () -> land.observe(4, 2, 0, 1, 0, 1));
         due(5, "60 are there", true, () -> land.mask(59, true) || land.mask(59, false));
     }
 
     private static void mask() {
-        Traversehall land = land(2);
+        Traversehall land = Checks.land(2);
         land.fix(0, 0, 0);
         land.observe(0, 0, 0, 1, 5, 1);
         land.observe(0, 0, 0, 1, 9, 1);
@@ -149,12 +135,12 @@ public final class NetsTest {
         due(6, "was masked until now", true, () -> land.mask(0, false));
         due(6, "counts again", 7, () -> land.top(0, 0, 1));
         due(6, "was not masked any more", false, () -> land.mask(0, false));
-        due(6, "no such observation", INDEX, () -> land.mask(2, true));
-        due(6, "an observation below 0", INDEX, () -> land.mask(-1, true));
+        due(6, "no such observation", Checks.INDEX, () -> land.mask(2, true));
+        due(6, "an observation below 0", Checks.INDEX, () -> land.mask(-1, true));
     }
 
     private static void isInUse() {
-        Traversehall land = land(4);
+        Traversehall land = Checks.land(4);
         land.fix(0, 0, 0);
         land.observe(0, 0, 0, 1, 5, 1);
         land.observe(0, 0, 2, 3, 5, 1);
@@ -168,12 +154,12 @@ public final class NetsTest {
         due(7, "between fixed points", true, () -> land.isInUse(1));
         land.mask(1, true);
         due(7, "masked", false, () -> land.isInUse(1));
-        due(7, "no such observation", INDEX, () -> land.isInUse(3));
-        due(7, "an observation below 0", INDEX, () -> land.isInUse(-1));
+        due(7, "no such observation", Checks.INDEX, () -> land.isInUse(3));
+        due(7, "an observation below 0", Checks.INDEX, () -> land.isInUse(-1));
     }
 
     private static void hangs() {
-        Traversehall land = land(6);
+        Traversehall land = Checks.land(6);
         land.fix(5, 1, 0);
         land.observe(2, 1, 0, 1, 5, 1);
         land.observe(2, 1, 4, 3, 5, 1);
@@ -188,15 +174,15 @@ public final class NetsTest {
         due(8, "another axis", false, () -> land.hangs(2, 0, 5));
         land.mask(2, true);
         due(8, "without what joined it", false, () -> land.hangs(2, 1, 3));
-        due(8, "no such epoch", INDEX, () -> land.hangs(5, 0, 0));
-        due(8, "an epoch below 0", INDEX, () -> land.hangs(-1, 0, 0));
-        due(8, "no such axis", INDEX, () -> land.hangs(0, 3, 0));
-        due(8, "no such point", INDEX, () -> land.hangs(0, 0, 6));
-        due(8, "a point below 0", INDEX, () -> land.hangs(0, 0, -1));
+        due(8, "no such epoch", Checks.INDEX, () -> land.hangs(5, 0, 0));
+        due(8, "an epoch below 0", Checks.INDEX, () -> land.hangs(-1, 0, 0));
+        due(8, "no such axis", Checks.INDEX, () -> land.hangs(0, 3, 0));
+        due(8, "no such point", Checks.INDEX, () -> land.hangs(0, 0, 6));
+        due(8, "a point below 0", Checks.INDEX, () -> land.hangs(0, 0, -1));
     }
 
     private static void parts() {
-        Traversehall land = land(6);
+        Traversehall land = Checks.land(6);
         land.fix(0, 0, 1);
         land.fix(5, 0, 1);
         due(9, "all alone", 6, () -> land.parts(3, 0));
@@ -211,12 +197,12 @@ public final class NetsTest {
         due(9, "not by masked ones", 4, () -> land.parts(3, 0));
         due(9, "another axis", 6, () -> land.parts(3, 1));
         due(9, "another epoch", 6, () -> land.parts(2, 0));
-        due(9, "no such epoch", INDEX, () -> land.parts(5, 0));
-        due(9, "no such axis", INDEX, () -> land.parts(0, 3));
+        due(9, "no such epoch", Checks.INDEX, () -> land.parts(5, 0));
+        due(9, "no such axis", Checks.INDEX, () -> land.parts(0, 3));
     }
 
     private static void spare() {
-        Traversehall land = land(4);
+        Traversehall land = Checks.land(4);
         land.observe(0, 0, 0, 1, 5, 1);
         land.observe(0, 0, 0, 1, 6, 1);
         due(10, "nothing hangs", 0, () -> land.spare(0, 0));
@@ -229,13 +215,13 @@ public final class NetsTest {
         due(10, "between fixed points", 2, () -> land.spare(0, 0));
         land.mask(1, true);
         due(10, "masked", 1, () -> land.spare(0, 0));
-        due(10, "no such epoch", INDEX, () -> land.spare(5, 0));
-        due(10, "no such axis", INDEX, () -> land.spare(0, 3));
+        due(10, "no such epoch", Checks.INDEX, () -> land.spare(5, 0));
+        due(10, "no such axis", Checks.INDEX, () -> land.spare(0, 3));
     }
 
     /** A triangle with one fixed point: 0 at 100, the told ways 10, 20 and 33 (weight 2). */
     private static Traversehall triangle() {
-        Traversehall land = land(4);
+        Traversehall land = Checks.land(4);
         land.fix(0, 1, 100);
         land.observe(3, 1, 0, 1, 10, 1);
         land.observe(3, 1, 2, 1, -20, 1);
@@ -249,9 +235,9 @@ public final class NetsTest {
         CHECKS.dueFraction(11, "the point 1", 556, 5, () -> land.top(3, 1, 1), () -> land.bottom(3, 1, 1));
         CHECKS.dueFraction(12, "the point 2", 662, 5, () -> land.top(3, 1, 2), () -> land.bottom(3, 1, 2));
         CHECKS.dueFraction(11, "the fixed point", 100, 1, () -> land.top(3, 1, 0), () -> land.bottom(3, 1, 0));
-        due(11, "does not hang", NONE, () -> land.top(3, 1, 3));
-        due(12, "does not hang", NONE, () -> land.bottom(3, 1, 3));
-        due(11, "another epoch", NONE, () -> land.top(2, 1, 1));
+        due(11, "does not hang", Checks.NONE, () -> land.top(3, 1, 3));
+        due(12, "does not hang", Checks.NONE, () -> land.bottom(3, 1, 3));
+        due(11, "another epoch", Checks.NONE, () -> land.top(2, 1, 1));
         land.fix(0, 1, -500);
         CHECKS.dueFraction(11, "below 0", -2444, 5, () -> land.top(3, 1, 1), () -> land.bottom(3, 1, 1));
         land.fix(2, 1, -465);
@@ -266,7 +252,7 @@ public final class NetsTest {
     }
 
     private static void rounded() {
-        Traversehall land = land(2);
+        Traversehall land = Checks.land(2);
         land.fix(0, 0, 0);
         int[] told = {1, 3, -1, -3, 4, 0};
         int[] want = {1, 2, 0, -1, 2, 0};
@@ -279,7 +265,7 @@ public final class NetsTest {
             land.observe(epoch, axis, 0, 1, 0, 1);
             due(13, value + " halves", want[turn], () -> land.rounded(epoch, axis, 1));
         }
-        Traversehall thirds = land(2);
+        Traversehall thirds = Checks.land(2);
         thirds.fix(0, 2, 0);
         thirds.observe(0, 2, 0, 1, 1, 1);
         thirds.observe(0, 2, 0, 1, 0, 2);
@@ -293,7 +279,7 @@ public final class NetsTest {
         due(13, "two thirds", 1, () -> thirds.rounded(1, 2, 1));
         due(13, "a third below 0", 0, () -> thirds.rounded(2, 2, 1));
         due(13, "two thirds below 0", -1, () -> thirds.rounded(3, 2, 1));
-        due(13, "does not hang", NONE, () -> thirds.rounded(4, 2, 1));
+        due(13, "does not hang", Checks.NONE, () -> thirds.rounded(4, 2, 1));
         due(13, "a fixed one", 0, () -> thirds.rounded(4, 2, 0));
     }
 
@@ -303,8 +289,8 @@ public final class NetsTest {
         CHECKS.dueFraction(15, "the point 2", 2, 5, () -> land.doubtTop(3, 1, 2), () -> land.doubtBottom(3, 1, 2));
         CHECKS.dueFraction(15, "the fixed point", 0, 1,
                 () -> land.doubtTop(3, 1, 0), () -> land.doubtBottom(3, 1, 0));
-        due(14, "does not hang", NONE, () -> land.doubtTop(3, 1, 3));
-        due(15, "does not hang", NONE, () -> land.doubtBottom(3, 1, 3));
+        due(14, "does not hang", Checks.NONE, () -> land.doubtTop(3, 1, 3));
+        due(15, "does not hang", Checks.NONE, () -> land.doubtBottom(3, 1, 3));
         land.observe(3, 1, 2, 3, 0, 2);
         CHECKS.dueFraction(14, "the point 3", 9, 10, () -> land.doubtTop(3, 1, 3), () -> land.doubtBottom(3, 1, 3));
         land.mask(0, true);
@@ -329,13 +315,13 @@ public final class NetsTest {
         land.fix(2, 1, 140);
         CHECKS.dueFraction(16, "between fixed points", -3, 1, () -> land.residualTop(3), () -> land.residualBottom(3));
         land.mask(0, true);
-        due(16, "masked", NONE, () -> land.residualTop(0));
-        due(17, "masked", NONE, () -> land.residualBottom(0));
+        due(16, "masked", Checks.NONE, () -> land.residualTop(0));
+        due(17, "masked", Checks.NONE, () -> land.residualBottom(0));
         land.observe(0, 0, 0, 1, 1, 1);
-        due(16, "not hanging", NONE, () -> land.residualTop(4));
-        due(16, "no such observation", INDEX, () -> land.residualTop(5));
-        due(17, "no such observation", INDEX, () -> land.residualBottom(5));
-        due(17, "an observation below 0", INDEX, () -> land.residualBottom(-1));
+        due(16, "not hanging", Checks.NONE, () -> land.residualTop(4));
+        due(16, "no such observation", Checks.INDEX, () -> land.residualTop(5));
+        due(17, "no such observation", Checks.INDEX, () -> land.residualBottom(5));
+        due(17, "an observation below 0", Checks.INDEX, () -> land.residualBottom(-1));
     }
 
     private static void sums() {
@@ -348,27 +334,27 @@ public final class NetsTest {
         land.fix(2, 1, 104);
         land.fix(1, 1, 100);
         CHECKS.dueFraction(18, "of fixed points", 356, 1, () -> land.sumTop(3, 1), () -> land.sumBottom(3, 1));
-        due(18, "no such epoch", INDEX, () -> land.sumTop(5, 0));
-        due(18, "no such axis", INDEX, () -> land.sumTop(0, 3));
-        due(19, "no such epoch", INDEX, () -> land.sumBottom(-1, 0));
-        due(19, "no such axis", INDEX, () -> land.sumBottom(0, -1));
+        due(18, "no such epoch", Checks.INDEX, () -> land.sumTop(5, 0));
+        due(18, "no such axis", Checks.INDEX, () -> land.sumTop(0, 3));
+        due(19, "no such epoch", Checks.INDEX, () -> land.sumBottom(-1, 0));
+        due(19, "no such axis", Checks.INDEX, () -> land.sumBottom(0, -1));
     }
 
     private static void wrongNets() {
-        Traversehall land = land(1);
+        Traversehall land = Checks.land(1);
         int[][] wrong = {{-1, 0, 0}, {5, 0, 0}, {0, -1, 0}, {0, 3, 0}, {0, 0, -1}, {0, 0, 1},
             {Integer.MIN_VALUE, 0, 0}, {0, Integer.MAX_VALUE, 0}, {0, 0, Integer.MAX_VALUE}};
         for (int[] net : wrong) {
-            due(11, "no such net", INDEX, () -> land.top(net[0], net[1], net[2]));
-            due(12, "no such net", INDEX, () -> land.bottom(net[0], net[1], net[2]));
-            due(13, "no such net", INDEX, () -> land.rounded(net[0], net[1], net[2]));
-            due(14, "no such net", INDEX, () -> land.doubtTop(net[0], net[1], net[2]));
-            due(15, "no such net", INDEX, () -> land.doubtBottom(net[0], net[1], net[2]));
+            due(11, "no such net", Checks.INDEX, () -> land.top(net[0], net[1], net[2]));
+            due(12, "no such net", Checks.INDEX, () -> land.bottom(net[0], net[1], net[2]));
+            due(13, "no such net", Checks.INDEX, () -> land.rounded(net[0], net[1], net[2]));
+            due(14, "no such net", Checks.INDEX, () -> land.doubtTop(net[0], net[1], net[2]));
+            due(15, "no such net", Checks.INDEX, () -> land.doubtBottom(net[0], net[1], net[2]));
         }
     }
 
     private static void severalParts() {
-        Traversehall land = land(6);
+        Traversehall land = Checks.land(6);
         land.fix(0, 0, 0);
         land.fix(3, 0, 100);
         land.observe(0, 0, 0, 1, 1, 1);
@@ -385,7 +371,7 @@ public final class NetsTest {
 
     /** The most that ten observations of weight 2 can tell against fixed points at the edges. */
     private static void greatNumbers() {
-        Traversehall land = land(6);
+        Traversehall land = Checks.land(6);
         land.fix(0, 2, -4999);
         land.fix(1, 2, 4999);
         for (int count = 0; count < 10; count++) {
