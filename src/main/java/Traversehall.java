@@ -160,7 +160,7 @@ public final class Traversehall {
 
     public boolean isNeeded(int observation) throws IndexOutOfBoundsException, NoSuchElementException {
         requireObservation(observation);
-        requireInUse(observation);
+        requireInUse(indexInUse(observation));
         return !hangsWithout(observation);
     }
 
@@ -465,13 +465,14 @@ public final class Traversehall {
 
     private void findResidual(int observation) {
         requireObservation(observation);
-        int index = requireInUse(observation);
+        int index = indexInUse(observation);
+        requireInUse(index);
         found.set(net.scaledResidual(index), net.scale);
     }
 
     private void findDrop(int observation) {
         requireObservation(observation);
-        requireInUse(observation);
+        requireInUse(indexInUse(observation));
         if (!hangsWithout(observation)) {
             throw new UnsupportedOperationException("the observation is needed");
         }
@@ -563,12 +564,10 @@ public final class Traversehall {
         }
     }
 
-    private int requireInUse(int observation) {
-        int index = indexInUse(observation);
-        if (index == NONE) {
+    private void requireInUse(int indexInUse) {
+        if (indexInUse == NONE) {
             throw new NoSuchElementException("the observation is not in use");
         }
-        return index;
     }
 
     private void requireCoordinate(int version, int axis, int point) {
