@@ -205,5 +205,15 @@ public final class DeedsEdgesTest {
         for (String step : far) {
             look(39, "more than 5: " + step, PLACES, "deed; corner 0 0 0 0; corner 0 1 " + step, "yields 0 0 = 1");
         }
+        // From the point 0 to the point 1 it is -100 along the axis 1.
+        String south = "2x addPoint; fix 0 0 10; fix 0 1 20; fix 1 0 10; fix 1 1 -80; publish 0";
+        String[] nearSouth = {"0 -100", "0 -105", "0 -95", "5 -100", "-5 -100", "5 -105", "-5 -95"};
+        String[] farSouth = {"0 -106", "0 -94", "6 -100", "-6 -100", "0 100", "0 0"};
+        for (String step : nearSouth) {
+            look(39, "not more than 5: " + step, south, "deed; corner 0 0 0 0; corner 0 1 " + step, "yields 0 0 = 0");
+        }
+        for (String step : farSouth) {
+            look(39, "more than 5: " + step, south, "deed; corner 0 0 0 0; corner 0 1 " + step, "yields 0 0 = 1");
+        }
     }
 }
