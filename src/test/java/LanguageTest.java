@@ -59,6 +59,10 @@ public final class LanguageTest {
             if (line.contains("throw ") && !line.trim().matches(THROWN)) {
                 WRONG.add("another throw: " + line.trim());
             }
+            // Rule 12: what a run makes is counted, so that rows are made with the object, and none by a call.
+            if (line.matches(".*\\bnew\\b.*") && !line.trim().matches("throw new .*|private final .* = new .*")) {
+                WRONG.add("made by a call: " + line.trim());
+            }
         }
     }
 
